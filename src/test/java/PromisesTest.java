@@ -431,6 +431,25 @@ public final class PromisesTest {
         due("x 65536, ahead of the same one", BAD_VALUE, g.bout(0, 0, 65536));
         due("itself", NOT_POSSIBLE, g.bout(0, 0, 65535));
         due("a smashed one", NOT_POSSIBLE, g.bout(0, 1, 5));
+        ConkerHeirs h = with(9, 9);
+        due("twenty strikes", 20, h.bout(0, 1, gentleX(20)));
+        due("both fell with the last one", 2, h.count(2));
+    }
+
+    /** A beginning whose swings are at most 6, so that each strike wears by 1 alone. */
+    private static int gentleX(int strikes) {
+        for (int start = 0; start < 65536; start++) {
+            int x = start;
+            int gentle = 0;
+            while (gentle < strikes && next(x) / 7282 < 6) {
+                x = next(x);
+                gentle++;
+            }
+            if (gentle == strikes) {
+                return start;
+            }
+        }
+        return -1;
     }
 
     private static void round() {
