@@ -1,15 +1,5 @@
 /** A part for each promise of the document: ordinary inputs, the edges that it names, and wrong inputs. */
-public final class PromisesTest {
-    private static final int NO_SUCH = -1;
-    private static final int BAD_VALUE = -2;
-    private static final int TOO_MANY = -3;
-    private static final int NOT_POSSIBLE = -4;
-    private static final int NONE = -5;
-    private static final int LOWEST = Integer.MIN_VALUE;
-    private static final int HIGHEST = Integer.MAX_VALUE;
-
-    private static final Checks CHECKS = new Checks();
-
+public final class PromisesTest extends Parts {
     public static void main(String[] args) {
         newObject();
         thread();
@@ -46,65 +36,6 @@ public final class PromisesTest {
         winner();
         share();
         CHECKS.close("PromisesTest");
-    }
-
-    private static void due(String call, double want, double got) {
-        CHECKS.due(call, want, got);
-    }
-
-    // ---- what the parts begin with
-
-    /** Conker i belongs to player i modulo 6 and has the i-th hardness. */
-    private static ConkerHeirs with(int... hardness) {
-        ConkerHeirs g = new ConkerHeirs();
-        for (int i = 0; i < hardness.length; i++) {
-            due("threading " + i, i, g.thread(i % 6, hardness[i]));
-        }
-        return g;
-    }
-
-    /** A conker with the hardness 9 smashes a fresh one with the hardness 1: 81 and 81 are above 100. */
-    private static void smash(ConkerHeirs g, int hard, int soft) {
-        due("first strike", 0, g.strike(hard, soft, 9));
-        due("second strike", 2, g.strike(hard, soft, 9));
-    }
-
-    /** Conker 0 (hardness 9) falls from strikes at conker 1 (9), whose wear is 10 then. */
-    private static ConkerHeirs withFallen(int... more) {
-        ConkerHeirs g = with(9, 9);
-        for (int i = 0; i < more.length; i++) {
-            due("threading", 2 + i, g.thread(2 + i, more[i]));
-        }
-        for (int i = 0; i < 9; i++) {
-            due("wearing", 0, g.strike(0, 1, 7));
-        }
-        due("falling", 4, g.strike(0, 1, 7));
-        return g;
-    }
-
-    private static void write(ConkerHeirs g, String text) {
-        g.clearText();
-        for (int i = 0; i < text.length(); i++) {
-            due("append to " + text, i + 1, g.append(text.charAt(i)));
-        }
-    }
-
-    private static void dueCounts(ConkerHeirs g, int... want) {
-        for (int what = 0; what < want.length; what++) {
-            due("count(" + what + ")", want[what], g.count(what));
-        }
-    }
-
-    private static void dueConker(ConkerHeirs g, int conker, int... want) {
-        for (int what = 0; what < want.length; what++) {
-            due("conker(" + conker + ", " + what + ")", want[what], g.conker(conker, what));
-        }
-    }
-
-    private static void duePlayer(ConkerHeirs g, int player, int... want) {
-        for (int what = 0; what < want.length; what++) {
-            due("player(" + player + ", " + what + ")", want[what], g.player(player, what));
-        }
     }
 
     // ---- the promises
@@ -493,10 +424,6 @@ public final class PromisesTest {
             }
         }
         due("who is left over rests", 0, g.conker(other == 4 ? 0 : 4, 3));
-    }
-
-    private static int next(int x) {
-        return (int) ((25173L * x + 13849L) % 65536L);
     }
 
     private static void append() {
