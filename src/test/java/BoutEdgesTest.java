@@ -26,6 +26,7 @@ public final class BoutEdgesTest extends Parts {
         roundLeavesOut();
         roundSendsTheBest();
         roundsOfAll();
+        roundAfterOneThatRests();
         CHECKS.close("BoutEdgesTest");
     }
 
@@ -378,5 +379,25 @@ public final class BoutEdgesTest extends Parts {
         due("bouts of " + players, bouts, g.round(start));
         due("bouts of " + players, players / 2, bouts);
         dueAlike(players, h, g);
+    }
+
+    /** Who rested in a round, of three, stands in the next row as the others do. */
+    private static void roundAfterOneThatRests() {
+        ConkerHeirs g = with(9, 9, 9);
+        ConkerHeirs h = with(9, 9, 9);
+        due("one bout", 1, g.round(2));
+        int x = next(2);
+        due("strikes", g.count(6), h.bout(0, 1 + x % 2, x));
+        int left = g.count(1);
+        due("left", left, h.count(1));
+        int bouts = left / 2;
+        due("the next round", bouts, g.round(3));
+        if (bouts == 1) {
+            int first = h.player(0, 6) == 0 ? 0 : 1;
+            int second = h.player(1, 6) == 1 && first == 0 ? 1 : 2;
+            due("strikes", g.count(6) - h.count(6), h.bout(first, second, next(3)));
+        }
+        dueAlike(3, h, g);
+        CHECKS.holds("a second bout is looked at", bouts == 1);
     }
 }

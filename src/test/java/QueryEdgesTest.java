@@ -13,6 +13,7 @@ public final class QueryEdgesTest extends Parts {
         rankedWithNoneLeft();
         lineOfNone();
         lineOfTwentySeven();
+        lineOfFirstAndLast();
         lineHasNotItself();
         countWhatLeastAndMost();
         countOfBoasts();
@@ -224,6 +225,15 @@ public final class QueryEdgesTest extends Parts {
         due("not more than it has", 0, g.doubt(0, 29));
         due("boast", NONE, g.boast(29, 28));
         due("more than it has", 3, g.doubt(0, 29));
+    }
+
+    /** The conker 0 is in the line of the last one. */
+    private static void lineOfFirstAndLast() {
+        ConkerHeirs g = with(1, 5, 9);
+        smash(g, 2, 0);
+        due("line of the last one", 1, g.line(2));
+        due("of the first one", 0, g.line(0));
+        due("of the one between", 0, g.line(1));
     }
 
     private static void lineHasNotItself() {

@@ -17,6 +17,7 @@ public final class TextEdgesTest extends Parts {
         runOfOneOrder();
         runOfSeventeenOrders();
         runOfTenStrikes();
+        runOfTheHighestNumbers();
         runStopsAtNoSuchConker();
         runStopsAtSamePlayer();
         runStopsAtSmashed();
@@ -27,6 +28,8 @@ public final class TextEdgesTest extends Parts {
         eachActionIsRecorded();
         whatIsNoAction();
         undoBringsAllBack();
+        undoBringsShameBack();
+        undoBringsOwnersBack();
         undoLeavesTextAndSnapshot();
         undoIsNotUndone();
         saveOfEmptyGame();
@@ -258,6 +261,25 @@ public final class TextEdgesTest extends Parts {
         due("strikes", 0, g.count(6));
     }
 
+    private static void runOfTheHighestNumbers() {
+        ConkerHeirs g = new ConkerHeirs();
+        for (int conker = 0; conker < 30; conker++) {
+            if (g.player(conker % 6, 0) == 0) {
+                due("give", 2, g.give(conker % 6, 2));
+            }
+            due("thread", conker, g.thread(conker % 6, 9));
+        }
+        write(g, "29x28:9,20x19:8,9x10:7,0x29:6,s29");
+        due("four strikes; 29 is not fallen", 4, g.run());
+        dueConker(g, 28, 4, 9, 9, 1, 0, NONE, 0, NONE, 0);
+        dueConker(g, 29, 5, 9, 10, 3, 0, NONE, 0, NONE, 0);
+        dueConker(g, 20, 2, 9, 4, 2, 0, NONE, 0, NONE, 0);
+        dueConker(g, 19, 1, 9, 8, 1, 0, NONE, 0, NONE, 0);
+        dueConker(g, 9, 3, 9, 3, 2, 0, NONE, 0, NONE, 0);
+        dueConker(g, 10, 4, 9, 7, 1, 0, NONE, 0, NONE, 0);
+        dueConker(g, 0, 0, 9, 3, 1, 0, NONE, 0, NONE, 0);
+    }
+
     private static void runStopsAtNoSuchConker() {
         ConkerHeirs g = with(9, 9);
         write(g, "0x1:1,0x2:1,0x1:1");
@@ -432,6 +454,34 @@ public final class TextEdgesTest extends Parts {
         dueConker(h, 1, 1, 1, 81, 1, 0, NONE, 0, NONE, 0);
         due("no heir", 0, h.count(7));
         due("no line", 0, h.line(0));
+    }
+
+    private static void undoBringsShameBack() {
+        ConkerHeirs g = with(9);
+        due("boast", NONE, g.boast(0, 1));
+        due("doubt", 0, g.doubt(1, 0));
+        due("save", 1, g.save());
+        due("undo", 2, g.undo());
+        duePlayer(g, 0, 2, 0);
+        due("the boast is back", 1, g.conker(0, 5));
+        due("restore", 1, g.restore());
+        duePlayer(g, 0, 2, 1);
+        due("the boast is gone", NONE, g.conker(0, 5));
+    }
+
+    /** The number of an undone conker goes to another player; the snapshot knows the first one. */
+    private static void undoBringsOwnersBack() {
+        ConkerHeirs g = with(9);
+        due("thread", 1, g.thread(3, 7));
+        due("save", 2, g.save());
+        due("undo", 1, g.undo());
+        due("thread", 1, g.thread(4, 2));
+        due("restore", 2, g.restore());
+        dueConker(g, 1, 3, 7, 0, 0, 0, NONE, 0, NONE, 0);
+        duePlayer(g, 3, 2, 0, 1, 0, 0, 0, 1);
+        duePlayer(g, 4, 3, 0, 0, 0, 0, 0, NONE);
+        due("undo", 2, g.undo());
+        dueConker(g, 1, 4, 2, 0, 0, 0, NONE, 0, NONE, 0);
     }
 
     private static void undoLeavesTextAndSnapshot() {
